@@ -6,8 +6,9 @@ import java.util.TreeSet;
 
 /** Long mixed runs of calls, held against a model that follows the document's definitions word by word. */
 public final class OracleTest {
-    private static final int RUNS = 60;
-    private static final int CALLS = 512;
+    private static final int RUNS = 210;
+    /** A turn is one call or a few; whole runs stay near the document's 512 calls. */
+    private static final int TURNS = 200;
     private static int wrong = 0;
 
     public static void main(String[] args) {
@@ -24,10 +25,13 @@ public final class OracleTest {
         Dice dice = new Dice(run + 1);
         int n = run % 7 + 1;
         // Runs that clear often see small states, runs that hardly clear see full ones.
-        int clearOdds = run % 3 == 0 ? 400 : 60;
+        int clearOdds = run % 3 == 0 ? 400 : 40;
         MotionGroups real = new MotionGroups(n);
         Model model = new Model(n);
-        for (int call = 0; call < CALLS; call++) {
+        if (run % 2 == 0) {
+            playBeginning(run, 0, dice, real, model);
+        }
+        for (int call = 1; call <= TURNS; call++) {
             playCall(run, call, dice, clearOdds, real, model);
         }
     }
@@ -43,7 +47,7 @@ public final class OracleTest {
             case 3 -> due(run, call, "product", real.product(p, q), model.product(p, q));
             case 4 -> due(run, call, "inverse", real.inverse(p), model.inverse(p));
             case 5 -> due(run, call, "images", real.images(p), model.images(p));
-            case 6 -> due(run, call, "group", real.group(), model.group());
+            case 6 -> playGroup(run, call, dice, real, model);
             case 7 -> due(run, call, "generate", real.generate(g, p), model.generate(g, p));
             case 8 -> due(run, call, "order", real.order(g), model.order(g));
             case 9 -> due(run, call, "contains", real.contains(g, p), model.contains(g, p));
@@ -58,14 +62,47 @@ public final class OracleTest {
             }
             case 13 -> {
                 int points = dice.near(1 << model.n);
-                due(run, call, "hold", real.hold(g, points), model.hold(g, points));
+                dueGroup(run, call, "hold", real.hold(g, points), model.hold(g, points), real, model);
             }
             case 14 -> due(run, call, "compare", real.compare(g, h), model.compare(g, h));
             case 15 -> due(run, call, "normal", real.normal(g, h), model.normal(g, h));
-            case 16 -> due(run, call, "closure", real.closure(g, h), model.closure(g, h));
-            case 17 -> due(run, call, "derived", real.derived(g), model.derived(g));
+            case 16 -> dueGroup(run, call, "closure", real.closure(g, h), model.closure(g, h), real, model);
+            case 17 -> dueGroup(run, call, "derived", real.derived(g), model.derived(g), real, model);
             case 18 -> due(run, call, "length", real.length(g), model.length(g));
-            default -> due(run, call, "clear", real.clear(), model.clear());
+            default -> playClear(run, call, dice, real, model);
+        }
+    }
+
+    /** Some permutations and groups to begin with: chance alone seldom comes beyond trivial groups. */
+    private static void playBeginning(int run, int call, Dice dice, MotionGroups real, Model model) {
+        for (int i = 0; i < 6; i++) {
+            playText(run, call, dice, real, model);
+        }
+        for (int i = 0; i < 4; i++) {
+            playGroup(run, call, dice, real, model);
+        }
+    }
+
+    private static void playGroup(int run, int call, Dice dice, MotionGroups real, Model model) {
+        int made = model.group();
+        due(run, call, "group", real.group(), made);
+        int generators = dice.below(3);
+        for (int i = 0; i < generators; i++) {
+            int p = dice.near(model.permutations.size());
+            due(run, call, "generate", real.generate(made, p), model.generate(made, p));
+        }
+    }
+
+    /** Only the orders are asked at once; later calls see which elements there are. */
+    private static void dueGroup(int run, int call, String name, int got, int want, MotionGroups real, Model model) {
+        due(run, call, name, got, want);
+        due(run, call, "order after " + name, real.order(got), model.order(want));
+    }
+
+    private static void playClear(int run, int call, Dice dice, MotionGroups real, Model model) {
+        due(run, call, "clear", real.clear(), model.clear());
+        if (dice.below(3) != 0) {
+            playBeginning(run, call, dice, real, model);
         }
     }
 
