@@ -296,6 +296,9 @@ public final class PromiseBoundaries {
         run.due(3, "product", 2, 0).due(1203, "images", 3).due(4, "product", 0, 2).due(1203, "images", 4);
         run.due(5, "product", 2, 2).due(2013, "images", 5).due(6, "product", 5, 2).due(123, "images", 6);
         run.fillPermutations(40).due(-1, "images", 40);
+        // First a, then b, with the fewest points for which it matters.
+        new Run(3).reads(1, "(01)").reads(2, "(12)").due(3, "product", 1, 2).due(201, "images", 3)
+            .due(4, "product", 2, 1).due(120, "images", 4);
     }
 
     private static void productOfNone() {
@@ -381,11 +384,24 @@ public final class PromiseBoundaries {
             run.due(-1, "order", g).due(g, "group").due(1, "order", g).due(0, "contains", g, 1).due(0, "length", g);
         }
         // A place that was used before clear is without generators too.
-        run = Scenes.full().due(12, "clear").reads(1, "(01)");
+        run = usedAndCleared().reads(1, "(01)");
         for (int g = 0; g < 12; g++) {
             run.due(g, "group").due(1, "order", g).due(0, "contains", g, 1).due(1, "orbit", g, 0)
                 .due(0, "length", g).due(2, "generate", g, 1);
         }
+        usedAndCleared().due(0, "group").due(1, "derived", 0).due(2, "closure", 0, 0).due(3, "hold", 0, 0)
+            .due(1, "order", 1).due(1, "order", 2).due(1, "order", 3);
+        usedAndCleared().reads(1, "(01)").due(0, "group").due(2, "generate", 0, 1).due(1, "closure", 0, 0)
+            .due(2, "order", 1).due(2, "derived", 0).due(1, "order", 2);
+    }
+
+    /** Each place had a group with more generators than the groups that come later. */
+    private static Run usedAndCleared() {
+        Run run = new Run(4).reads(1, "(01)").reads(2, "(12)").reads(3, "(23)");
+        for (int g = 0; g < 12; g++) {
+            run.due(g, "group").due(2, "generate", g, 1).due(6, "generate", g, 2).due(24, "generate", g, 3);
+        }
+        return run.due(12, "clear");
     }
 
     private static void groupWithTwelve() {
@@ -751,6 +767,7 @@ public final class PromiseBoundaries {
             run.due(-1, "order", g);
         }
         run.due(0, "group").due(1, "order", 0).due(-1, "order", 1).fillGroups(12).due(-1, "group");
+        Scenes.furnish(usedAndCleared()).sameAs(Scenes.furnished(), "making all again after clear");
     }
 
     private static void clearPermutations() {

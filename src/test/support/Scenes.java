@@ -10,7 +10,11 @@ final class Scenes {
 
     /** Some permutations and groups of four points, and nothing typed. */
     static Run furnished() {
-        Run run = new Run(4);
+        return furnish(new Run(4));
+    }
+
+    /** What furnished makes, in a run that has nothing yet, or nothing any more. */
+    static Run furnish(Run run) {
         run.reads(1, "(0123)").reads(2, "(01)").reads(3, "(02)(13)").reads(4, "(012)");
         for (int g = 0; g < 4; g++) {
             run.due(g, "group");
